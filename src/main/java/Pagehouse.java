@@ -638,7 +638,8 @@ public final class Pagehouse {
 
     private void save(Page page) {
         secure(page.now.number);
-        page.becomeSafe(page.now);
+        page.safe.become(page.now);
+        page.sum = page.safe.addUp();
         page.from = 0;
     }
 
@@ -1073,8 +1074,6 @@ public final class Pagehouse {
         private void come() {
             now.become(safe);
             isFramed = true;
-            from = 0;
-            pins = 0;
         }
 
         private void leave() {
