@@ -541,8 +541,12 @@ public final class Pagehouse {
         }
     }
 
+    private static boolean isPage(int page) {
+        return page >= 0 && page < PAGES;
+    }
+
     private void needPage(int page) {
-        if (page < 0 || page >= PAGES) {
+        if (!isPage(page)) {
             throw new IndexOutOfBoundsException("no such page");
         }
     }
@@ -692,7 +696,7 @@ public final class Pagehouse {
         int backs = 0;
         int u = work.last;
         for (int turn = 0; u > down && turn < FAR; turn++) {
-            if (log.kind(u) == CHANGE) {
+            if (log.isChange(u)) {
                 putBack(work, u);
                 backs++;
             }
@@ -706,7 +710,7 @@ public final class Pagehouse {
         int lack = 0;
         int u = work.last;
         for (int turn = 0; u > down && turn < FAR; turn++) {
-            if (log.kind(u) == CHANGE) {
+            if (log.isChange(u)) {
                 int found = lackOf(log.page(u));
                 lack = lack == IS_TORN ? lack : found != 0 ? found : lack;
             }
@@ -731,7 +735,7 @@ public final class Pagehouse {
     private int firstNotCopied(int limit) {
         for (int r = log.kept; r < limit; r++) {
             int page = log.page(r);
-            if (page != NONE && r > pages[page].copied.number) {
+            if (isPage(page) && r > pages[page].copied.number) {
                 return r;
             }
         }
@@ -742,7 +746,7 @@ public final class Pagehouse {
         int end = Math.min(upTo, log.safe);
         for (int r = followed + 1; r <= end; r++) {
             int page = log.page(r);
-            if (page != NONE) {
+            if (isPage(page)) {
                 pages[page].mirrored.perform(log, r);
             }
             followed = r;
@@ -909,7 +913,7 @@ public final class Pagehouse {
             int at = tables.latest();
             Work work = workAt(tables.works[at]);
             int u = tables.lasts[at];
-            if (log.kind(u) == CHANGE) {
+            if (log.isChange(u)) {
                 if (made >= most) {
                     return most + 1;
                 }
@@ -1359,8 +1363,18 @@ public final class Pagehouse {
             return kinds[record] == BACK ? nexts[record] : priors[record];
         }
 
+        private boolean isChange(int record) {
+            return isOnRow(record) && kinds[record] == CHANGE;
+        }
+
+        /** Whether a record is a CHANGE or BACK, with its page and row. */
         private boolean isOnRow(int record) {
-            return kind(record) == CHANGE || kind(record) == BACK;
+            if (record < 1 || record > last || kinds[record] != CHANGE && kinds[record] != BACK) {
+                return false;
+            }
+            int page = pages[record];
+            int row = rows[record];
+            return page >= 0 && page < PAGES && row >= 0 && row < ROWS;
         }
 
         private boolean isOfRow(int record, int page, int row) {
@@ -1368,7 +1382,7 @@ public final class Pagehouse {
         }
 
         private boolean isStanding(int record) {
-            return kind(record) == CHANGE && mates[record] == 0;
+            return isChange(record) && mates[record] == 0;
         }
 
         /** Puts a record; tells its number, or 0 if there is no room, which 512 calls can not bring about. */
@@ -1461,7 +1475,7 @@ public final class Pagehouse {
         }
 
         private boolean isMark(int record) {
-            return kind(record) == MARK && mates[record] < marks.size();
+            return kind(record) == MARK && mates[record] >= 0 && mates[record] < marks.size();
         }
 
         private int tell(int record, int what) {
@@ -1571,7 +1585,7 @@ public final class Pagehouse {
                     setWork(log.work(r), r);
                 }
                 int page = log.page(r);
-                if (page != NONE && froms[page] == 0) {
+                if (isPage(page) && froms[page] == 0) {
                     froms[page] = r;
                 }
             }
@@ -1585,7 +1599,7 @@ public final class Pagehouse {
 
         private boolean isToRedo(Log log, int r) {
             int page = log.page(r);
-            return page != NONE && froms[page] != 0 && froms[page] <= r;
+            return isPage(page) && froms[page] != 0 && froms[page] <= r;
         }
 
         /** The place of the work that is to be undone next. */
@@ -1656,7 +1670,7 @@ public final class Pagehouse {
             for (int turn = 0; tables.count > 0 && turn < FAR; turn++) {
                 int at = tables.latest();
                 int u = tables.lasts[at];
-                if (log.kind(u) == CHANGE) {
+                if (log.isChange(u)) {
                     images[log.page(u)].values[log.row(u)] = log.before(u);
                     backs++;
                 }
