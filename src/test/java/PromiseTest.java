@@ -1,64 +1,12 @@
-import java.lang.reflect.InvocationTargetException;
-import java.lang.reflect.Method;
-import java.util.HashMap;
-import java.util.Map;
-
-/**
- * A run of calls on a new object for each promise of the document. A row is a call and the answer that is due:
- * {@code write 0 1 2 7 = 0}; INDEX, ARGUMENT and STATE stand for the exceptions, and {@code 9 times} ahead of a call
- * makes it nine times, all with that answer. What stands behind # is for the reader.
- */
+/** A run of calls on a new object, or several, for each promise of the document; Runs tells how a run is written. */
 public final class PromiseTest {
-    private static final Map<String, Method> FACE = new HashMap<>();
-    private static final Map<String, String> THROWN = Map.of("IndexOutOfBoundsException", "INDEX",
-        "IllegalArgumentException", "ARGUMENT", "IllegalStateException", "STATE");
-    private static int wrong = 0;
+    private static final Runs RUNS = new Runs();
 
     private PromiseTest() {
     }
 
-    private static Object argument(String word) {
-        return word.equals("true") || word.equals("false") ? (Object) Boolean.valueOf(word) : Integer.valueOf(word);
-    }
-
-    private static String answer(Pagehouse x, String call) {
-        String[] words = call.split(" +");
-        Object[] args = new Object[words.length - 1];
-        for (int i = 1; i < words.length; i++) {
-            args[i - 1] = argument(words[i]);
-        }
-        try {
-            return String.valueOf(FACE.get(words[0]).invoke(x, args));
-        } catch (InvocationTargetException e) {
-            String name = e.getCause().getClass().getSimpleName();
-            return THROWN.getOrDefault(name, name);
-        } catch (IllegalAccessException e) {
-            throw new AssertionError(e);
-        }
-    }
-
     private static void run(String title, String rows) {
-        Pagehouse x = new Pagehouse();
-        for (String line : rows.split("\n")) {
-            String row = line.replaceAll("#.*", "").trim();
-            if (row.isEmpty()) {
-                continue;
-            }
-            String call = row.substring(0, row.lastIndexOf('=')).trim();
-            String due = row.substring(row.lastIndexOf('=') + 1).trim();
-            int times = 1;
-            if (call.contains(" times ")) {
-                times = Integer.parseInt(call.substring(0, call.indexOf(' ')));
-                call = call.substring(call.indexOf(" times ") + 7);
-            }
-            for (int i = 0; i < times; i++) {
-                String got = answer(x, call);
-                if (!got.equals(due)) {
-                    wrong++;
-                    System.out.println(title + ": " + call + " answered " + got + ", due is " + due);
-                }
-            }
-        }
+        RUNS.run(title, rows);
     }
 
     private static void works() {
@@ -289,8 +237,7 @@ public final class PromiseTest {
             """);
         run("promise 7: many points", """
             begin = 0
-            40 times write 0 0 0 1 = -99
-            """.replace("40 times write 0 0 0 1 = -99", manyPoints(40)));
+            """ + manyPoints(40));
     }
 
     private static String manyPoints(int many) {
@@ -359,6 +306,91 @@ public final class PromiseTest {
             frames = 3+ 4+ 0*
             value 1 0 0 = 0
             value 0 0 0 = 0
+            """);
+        run("promise 8: back through a single FRAME", """
+            begin = 0
+            point 0 = 0
+            pin 3 = 1
+            pin 4 = 1
+            write 0 0 0 1 = 0      # record 2
+            write 0 1 0 2 = 0      # record 3, PAGE 0 leaves
+            write 0 0 1 3 = 0      # record 4, PAGE 1 leaves
+            spoil 0 2 = 1          # TORN, but in a FRAME: it is WRITTEN as it leaves
+            frames = 3+ 4+ 0*
+            back 0 0 = 3
+            frames = 3+ 4+ 0*
+            ofPage 0 6 = 0
+            ofPage 0 5 = 5         # WRITTEN with the BACK of record 4
+            ofPage 1 5 = 6
+            house 1 = 6
+            rows 0 0 = 0 0 0 0
+            rows 1 0 = 0 0 0 0
+            house 13 = 0
+            """);
+        run("promise 8: back (-5, if one of these is in no FRAME and TORN; only PAGES of the BACKS count)", """
+            begin = 0
+            write 0 0 0 1 = 0
+            ticket 0 1 = 1
+            point 0 = 0
+            write 0 2 0 2 = 0
+            pin 3 = 1
+            pin 4 = 1
+            flush 2 = 1
+            pin 5 = 1              # PAGES 0, 1 and 2 left
+            spoil 0 0 = 1
+            spoil 1 0 = 1
+            ? back 0 0 = -7        # PAGE 0 is not one of these
+            unpin 5 = 0
+            back 0 0 = 1
+            back 0 0 = 0           # no PAGE: nothing is in the way
+            pin 5 = 1
+            back 0 0 = 0
+            ? roll 0 = -5          # PAGE 0 is TORN
+            restore 0 = 1
+            ? roll 0 = -7
+            unpin 5 = 0
+            roll 0 = 1             # PAGE 1 has only a TICKET
+            ofPage 1 6 = 1
+            house 13 = 3
+            """);
+        run("promise 8: back (one PAGE is TORN, another has no FRAME)", """
+            begin = 0
+            point 0 = 0
+            write 0 0 0 1 = 0
+            write 0 1 0 2 = 0
+            write 0 2 0 3 = 0
+            pin 3 = 1
+            pin 4 = 1
+            pin 5 = 1
+            spoil 1 3 = 1
+            ? back 0 0 = -5
+            ? roll 0 = -5
+            restore 1 = 1
+            ? back 0 0 = -7
+            ? roll 0 = -7
+            unpin 4 = 0
+            back 0 0 = 3
+            house 13 = 4
+            frames = 3+ 5+ 0*
+            """);
+        run("promise 8: back (POINTS behind that one are gone)", """
+            begin = 0
+            point 0 = 0
+            point 0 = 1
+            point 0 = 2
+            ! back 0 3 = INDEX
+            back 0 2 = 0           # the last one: none is behind it
+            ofWork 0 3 = 3
+            back 0 0 = 0
+            ofWork 0 3 = 1
+            ! back 0 1 = INDEX
+            point 0 = 1
+            write 0 0 0 5 = 0
+            lockOf 0 0 0 = 2
+            back 0 1 = 1
+            lockOf 0 0 0 = 2       # LOCKS stay
+            lockOf 0 0 -1 = 2
+            ofWork 0 4 = 2
             """);
         run("promise 9: roll", """
             begin = 0
@@ -482,6 +514,63 @@ public final class PromiseTest {
             ofWork 1 0 = 0
             ofWork 1 5 = 1         # it still waits, for no one
             ofWork 1 6 = -1
+            """);
+        run("promise 12: breakRing (CHANGES that are UNDONE, and TICKETS, do not count)", """
+            begin = 0
+            begin = 1
+            write 0 0 0 1 = 0
+            point 0 = 0
+            write 0 0 0 2 = 1
+            write 0 0 0 3 = 2
+            back 0 0 = 2
+            write 1 1 0 1 = 0
+            write 1 1 0 2 = 1
+            ticket 0 2 = 1
+            ticket 0 2 = 2
+            write 0 1 0 9 = -6
+            write 1 0 0 9 = -6
+            ofWork 0 2 = 1
+            ofWork 1 2 = 2
+            breakRing = 0
+            house 0 = 13
+            ofRecord 12 7 = 1      # the BACK of record 3
+            ofRecord 13 0 = 4
+            value 0 0 0 = 0
+            """);
+        run("promise 12: breakRing (of several that with the greatest number)", """
+            begin = 0
+            begin = 1
+            begin = 2
+            begin = 3
+            read 0 0 0 = 0
+            read 1 1 0 = 0
+            read 2 2 0 = 0
+            read 3 3 0 = 0
+            write 0 1 0 1 = -6
+            write 1 2 0 1 = -6
+            write 2 0 0 1 = -6
+            write 3 0 0 1 = -6     # not of the RING
+            ring = 0 1 2
+            breakRing = 2
+            ofWork 2 0 = 3
+            ofWork 3 0 = 0
+            breakRing = -1
+            """);
+        run("promise 12: breakRing through a single FRAME", """
+            begin = 0
+            begin = 1
+            pin 4 = 1
+            pin 5 = 1
+            write 0 0 0 1 = 0
+            write 0 0 1 1 = 0
+            write 0 0 2 1 = 0
+            write 1 1 0 1 = 0
+            write 1 2 0 2 = 0
+            lock 0 1 true = -6
+            lock 1 0 true = -6
+            breakRing = 1
+            frames = 4+ 5+ 1*
+            house 13 = 0
             """);
         run("promise 12: breakRing that lacks a page", """
             begin = 0
@@ -912,11 +1001,20 @@ public final class PromiseTest {
             spoil 0 0 = 1
             value 0 0 1 = 1
             value 0 0 0 = 1        # as it is now: it is in no frame
-            998 times spoil 0 0 = 1
-            value 0 0 1 = 999
-            spoil 0 0 = 0          # 0 behind 999: the SUM is right again
-            ofPage 0 6 = 0
-            value 0 0 1 = 0
+            begin = 0
+            write 0 1 0 998 = 0
+            flush 1 = 1
+            spoil 1 0 = 1
+            value 1 0 1 = 999
+            value 1 0 0 = 998      # as it is now: it is in a frame
+            spoil 1 0 = 1
+            value 1 0 1 = 0        # 0 behind 999
+            ofPage 1 6 = 1
+            332 times spoil 1 2 = 1
+            ofPage 1 6 = 1
+            spoil 1 0 = 1
+            spoil 1 0 = 0          # 998 less, 332 * 3 more in ROW 2, and 2 more: the SUM is right again
+            ofPage 1 6 = 0
             spoil 6 0 = INDEX
             spoil -1 0 = INDEX
             spoil 0 4 = INDEX
@@ -1127,6 +1225,47 @@ public final class PromiseTest {
             ofWork 0 7 = ARGUMENT
             ofWork 0 -1 = ARGUMENT
             """);
+        run("promise 29: the last KEPT record that it put (0: none), how many of its KEPT CHANGES", """
+            begin = 0
+            write 0 0 0 1 = 0      # record 2
+            write 0 1 0 1 = 0      # record 3
+            write 0 0 1 1 = 0      # record 4
+            end 0 = 1              # record 5
+            flush 0 = 1
+            flush 1 = 1
+            copy = 0
+            follow 2 = 2
+            ofWork 0 2 = 3
+            cut = 2
+            ofWork 0 1 = 5
+            ofWork 0 2 = 2
+            follow 1 = 3
+            cut = 1
+            ofWork 0 2 = 1         # record 4
+            follow 1 = 4
+            cut = 1
+            ofWork 0 2 = 0
+            ofWork 0 1 = 5
+            follow 1 = 5
+            cut = 1
+            ofWork 0 1 = 0
+            """);
+        run("promise 29: how many LOCKS it has on ROWS and PAGES", """
+            begin = 0
+            ofWork 0 4 = 0
+            lock 0 0 false = 3
+            ofWork 0 4 = 1
+            read 0 0 3 = 0
+            ofWork 0 4 = 1
+            read 0 5 0 = 0
+            ofWork 0 4 = 3
+            read 0 5 3 = 0
+            ofWork 0 4 = 4
+            write 0 5 3 1 = 0
+            ofWork 0 4 = 4
+            write 0 0 0 1 = 0
+            ofWork 0 4 = 4
+            """);
         run("promise 29: ofWork behind a crash", """
             begin = 0
             point 0 = 0
@@ -1312,7 +1451,163 @@ public final class PromiseTest {
             """);
     }
 
+    private static void owing() {
+        run("promise 35: not above the NUMBER of the PAGE as it is now", """
+            begin = 0
+            write 0 0 0 1 = 0      # record 2
+            flush 0 = 1
+            write 0 0 0 2 = 1      # record 3
+            write 0 0 1 2 = 0      # record 4
+            owes 0 0 = 3
+            owes 0 1 = 4
+            force 9 = 4
+            crash = 0              # the PAGE is now as at record 2
+            owes 0 0 = 2
+            owes 0 1 = -1
+            mend 1 false = 1
+            restore 0 = 3          # all three
+            owes 0 0 = 3
+            owes 0 1 = 4
+            mend 9 false = 3
+            owes 0 0 = 7           # BACKS
+            owes 0 1 = 5
+            owes 0 2 = -1
+            owes 1 0 = -1
+            """);
+        run("promise 35: the last KEPT record", """
+            begin = 0
+            write 0 0 0 1 = 0      # record 2
+            write 0 0 1 2 = 0      # record 3
+            end 0 = 1
+            flush 0 = 1
+            copy = 0
+            follow 1 = 1
+            cut = 1
+            owes 0 0 = 2           # the first one that is KEPT
+            follow 1 = 2
+            cut = 1
+            owes 0 0 = -1
+            owes 0 1 = 3
+            follow 1 = 3
+            cut = 1
+            owes 0 1 = -1
+            ofPage 0 2 = 3
+            """);
+    }
+
     private static void whatWouldBe() {
+        run("promise 36: if the house crashed now (it is not: FRAMES and what is not SAFE do not count)", """
+            begin = 0
+            write 0 0 0 1 = 0      # record 2
+            force 9 = 2
+            write 0 0 0 2 = 1      # record 3, not SAFE
+            point 0 = 0
+            ! wouldMend 0 = 2
+            ! wouldMend 1 = 1
+            ! wouldMend 2 = 1
+            ! wouldMend 3 = 1
+            ! wouldMend 4 = 2
+            mark = 4               # not SAFE
+            ! wouldMend 0 = 2
+            ! afterMend 0 0 0 = 0
+            ! afterMend 1 0 0 = INDEX
+            ! isSound = true
+            value 0 0 0 = 2
+            crash = 2
+            wouldMends = 2 1 1 1 2
+            mend 9 false = 2
+            wouldMends = 4 2 0 0 2
+            """);
+        run("promise 36: how many records are looked at (MARKS, too, and those behind the MARK or all KEPT ones)", """
+            mark = 1
+            mark = 2
+            begin = 0
+            mark = 4
+            end 0 = 1
+            wouldMend 0 = 1
+            follow 99 = 5
+            cut = 5
+            wouldMend 0 = 0
+            begin = 1
+            begin = 2
+            force 1 = 6
+            wouldMend 0 = 1
+            force 1 = 7
+            wouldMend 0 = 2
+            mark = 8
+            wouldMend 0 = 2
+            force 1 = 8
+            wouldMend 0 = 0
+            wouldMend 3 = 2
+            """);
+        run("promise 37: the nth MARK of those that are KEPT and SAFE", """
+            mark = 1
+            mark = 2
+            begin = 0
+            write 0 0 0 5 = 0
+            mark = 5
+            mark = 6
+            ! afterMend 1 0 0 = INDEX
+            force 1 = 1
+            afterMend 1 0 0 = 0
+            ! afterMend 2 0 0 = INDEX
+            force 3 = 4
+            afterMends 2 0 = 0 0 0 0
+            ! afterMend 3 0 0 = INDEX
+            end 0 = 1
+            afterMends 0 0 = 5 0 0 0
+            afterMends 4 0 = 5 0 0 0
+            ! afterMend 5 0 0 = INDEX
+            flush 0 = 1
+            copy = 0
+            follow 4 = 4
+            cut = 4
+            afterMends 2 0 = 5 0 0 0
+            ! afterMend 3 0 0 = INDEX
+            house 3 = 2
+            """);
+        run("promise 38: NEW of the last CHANGE or BACK of it by a WORK with a SAFE END (0 without one)", """
+            group 2 = 1
+            begin = 0
+            point 0 = 0
+            write 0 0 0 5 = 0
+            write 0 0 1 6 = 0
+            back 0 0 = 2
+            write 0 0 1 7 = 0      # ROW 0 has a BACK, ROW 1 a CHANGE behind it
+            end 0 = 0
+            isSound = true         # nothing is SAFE
+            flush 0 = 1
+            isSound = true         # its END is not SAFE
+            afterMends 0 0 = 0 0 0 0
+            begin = 1
+            end 1 = 1
+            isSound = true
+            afterMends 0 0 = 0 7 0 0
+            begin = 2
+            write 2 0 1 8 = 7
+            roll 2 = 1
+            begin = 3
+            write 3 0 0 9 = 0
+            flush 0 = 1
+            isSound = true         # WORK 3 is OPEN, and what it wrote is SAFE
+            mark = 16
+            force 99 = 16
+            isSound = true
+            crash = 0
+            isSound = true
+            mend 0 false = 0
+            isSound = true
+            mend 99 true = 1
+            isSound = true
+            begin = 4
+            write 4 0 2 3 = 0
+            end 4 = 0
+            isSound = true
+            group 1 = 2
+            isSound = true
+            afterMends 0 0 = 0 7 3 0
+            afterMends 1 0 = 0 7 3 0
+            """);
         run("promise 36: wouldMend", """
             wouldMend 4 = 0
             wouldMend 5 = ARGUMENT
@@ -1436,76 +1731,6 @@ public final class PromiseTest {
             """.formatted(9167573254223764864L + 3 * power(31, DIGEST_BEHIND_KNOCKS + 7)));
     }
 
-    /** The checksum as promise 39 tells it, from what the other calls answer. */
-    private static long digestOf(Pagehouse x) {
-        java.util.List<Integer> all = new java.util.ArrayList<>();
-        for (int what = 0; what <= 14; what++) {
-            all.add(x.house(what));
-        }
-        for (int page = 0; page < 6; page++) {
-            for (int what = 0; what <= 9; what++) {
-                all.add(x.ofPage(page, what));
-            }
-            for (int row = 0; row < 4; row++) {
-                for (int which = 0; which <= 3; which++) {
-                    all.add(x.value(page, row, which));
-                }
-                all.add(x.owes(page, row));
-            }
-        }
-        for (int work = Math.max(0, x.house(4) - 6); work < x.house(4); work++) {
-            for (int what = 0; what <= 6; what++) {
-                all.add(x.ofWork(work, what));
-            }
-        }
-        for (int record = Math.max(x.house(2), x.house(0) - 7); record <= x.house(0); record++) {
-            for (int what = 0; what <= 9; what++) {
-                all.add(x.ofRecord(record, what));
-            }
-        }
-        all.add(x.ring().length());
-        all.add(x.frames().length());
-        for (int what = 0; what <= 4; what++) {
-            all.add(x.wouldMend(what));
-        }
-        all.add(x.isSound() ? 1 : 0);
-        long d = 6113;
-        for (int v : all) {
-            d = d * 31 + v;
-        }
-        return d;
-    }
-
-    private static void digests() {
-        Pagehouse x = new Pagehouse();
-        for (int i = 0; i < 60; i++) {
-            if (x.digest() != digestOf(x)) {
-                wrong++;
-                System.out.println("promise 39: digest " + i);
-            }
-            if (x.house(5) < 4 && i % 3 == 0) {
-                x.begin();
-            }
-            for (int work = Math.max(0, x.house(4) - 4); work < x.house(4); work++) {
-                if (x.ofWork(work, 0) == 0) {
-                    x.write(work, (i + work) % 4, i % 2, i);
-                }
-            }
-            if (i % 7 == 6) {
-                x.mark();
-                x.force(5);
-            }
-            if (x.ofWork(x.house(4) - 1, 0) == 0 && i % 5 == 4) {
-                x.end(x.house(4) - 1);
-            }
-            if (i % 20 == 19) {
-                x.crash();
-                x.mend(999, false);
-            }
-            x.breakRing();
-        }
-    }
-
     // 60 numbers of pages, 120 of rows, 2 lengths, 5 of mending, 1 if sound.
     private static final int DIGEST_BEHIND_KNOCKS = 60 + 120 + 2 + 5 + 1;
 
@@ -1518,21 +1743,13 @@ public final class PromiseTest {
     }
 
     public static void main(String[] args) {
-        for (Method m : Pagehouse.class.getDeclaredMethods()) {
-            if (java.lang.reflect.Modifier.isPublic(m.getModifiers())) {
-                FACE.put(m.getName(), m);
-            }
-        }
         works();
         undoing();
         framesAndLog();
         crashes();
         questions();
+        owing();
         whatWouldBe();
-        digests();
-        System.out.println(wrong == 0 ? "all promises are kept" : wrong + " answers are wrong");
-        if (wrong != 0) {
-            System.exit(1);
-        }
+        RUNS.finish("promises");
     }
 }
