@@ -471,12 +471,70 @@ public final class LimitsTest {
         RUNS.check(below > 0 && below < 40, "some digests are below 0, some above");
     }
 
+    /** Runs of 512 calls, all of which have their answers. */
+    private static void longest() {
+        StringBuilder rows = new StringBuilder("begin = 0\n");
+        for (int i = 0; i < 508; i++) {
+            rows.append("write 0 ").append(i % 6).append(" 0 ").append(i % 7).append(" = ").append(i < 6 ? 0 : (i - 6) % 7)
+                .append('\n');
+        }
+        run("An object is used for at most 512 calls (the longest LOG)", rows
+            + "roll 0 = 508\nhouse 0 = 1018\nofRecord 1018 0 = 4\n");
+        rows = new StringBuilder();
+        for (int i = 0; i < 255; i++) {
+            rows.append("begin = ").append(i).append("\nend ").append(i).append(" = 1\n");
+        }
+        run("An object is used for at most 512 calls (ended WORKS)", rows + "house 4 = 255\nofWork 254 0 = 2\n");
+        rows = new StringBuilder();
+        for (int i = 0; i < 85; i++) {
+            for (int k = 0; k < 4; k++) {
+                rows.append("begin = ").append(4 * i + k).append('\n');
+            }
+            rows.append("crash = 4\nmend 0 false = 0\n");
+        }
+        run("An object is used for at most 512 calls (the most WORKS)", rows + "begin = 340\nhouse 0 = 1\n");
+        rows = new StringBuilder("begin = 0\n");
+        for (int i = 0; i < 509; i++) {
+            rows.append("point 0 = ").append(i).append('\n');
+        }
+        run("An object is used for at most 512 calls (the most POINTS)", rows + "back 0 508 = 0\nofWork 0 3 = 509\n");
+        run("An object is used for at most 512 calls (the most PINS and REFUSED ones)",
+            knocks(255) + pins(255) + "ofPage 3 4 = 255\nhouse 14 = 255\n");
+        rows = new StringBuilder();
+        for (int i = 1; i <= 509; i++) {
+            rows.append("mark = ").append(i).append('\n');
+        }
+        run("An object is used for at most 512 calls (the most MARKS)", rows + "house 3 = 509\nforce 99 = 99\nafterMend 99 0 0 = 0\n");
+        rows = new StringBuilder();
+        for (int i = 1; i <= 255; i++) {
+            rows.append("crash = 0\nmend 999 true = 0\n");
+        }
+        run("An object is used for at most 512 calls (the most crashes)", rows + "house 11 = 255\n");
+    }
+
+    private static String knocks(int many) {
+        StringBuilder rows = new StringBuilder();
+        for (int i = 1; i <= many; i++) {
+            rows.append("knock = ").append(i).append('\n');
+        }
+        return rows.toString();
+    }
+
+    private static String pins(int many) {
+        StringBuilder rows = new StringBuilder();
+        for (int i = 1; i <= many; i++) {
+            rows.append("pin 3 = ").append(i).append('\n');
+        }
+        return rows.toString();
+    }
+
     public static void main(String[] args) {
         limits();
         corners();
         down();
         nothing();
         digests();
+        longest();
         RUNS.finish("limits");
     }
 }

@@ -65,6 +65,43 @@ public final class LogTest {
             begin = 1
             allOfRecord 3 = 0 1 -1 -1 -1 -1 0 -1 -1 -1
             """);
+        run("behind a crash the next one .. (it has nothing of the one that was lost)", """
+            begin = 0
+            point 0 = 0
+            write 0 0 0 1 = 0      # record 2
+            back 0 0 = 1           # record 3
+            mark = 4
+            mark = 5
+            crash = 5
+            mend 0 false = 0
+            begin = 1
+            write 1 0 0 1 = 0
+            write 1 0 0 2 = 1      # where a BACK was
+            write 1 0 0 3 = 2      # where MARKS were
+            write 1 0 0 4 = 3
+            ofWork 1 2 = 4
+            allOfRecord 2 = 1 1 0 0 0 1 1 -1 -1 -1
+            allOfRecord 3 = 1 1 0 0 1 2 2 -1 -1 -1
+            allOfRecord 5 = 1 1 0 0 3 4 4 -1 -1 -1
+            house 3 = 0
+            """);
+        run("behind a crash .. (MARKS that are lost lose no BACK)", """
+            begin = 0
+            point 0 = 0
+            write 0 0 0 1 = 0      # record 2
+            write 0 0 0 2 = 1      # record 3
+            back 0 0 = 2           # records 4 and 5
+            mark = 6
+            mark = 7
+            mark = 8
+            mark = 9
+            force 6 = 6
+            crash = 3
+            ofWork 0 2 = 0
+            mend 9 false = 4
+            ofWork 0 2 = 0
+            house 3 = 1
+            """);
         run("KINDS: 0 BEGIN, 1 CHANGE, 2 BACK, 3 END, 4 GONE, 5 MARK, 6 TICKET", """
             begin = 0
             point 0 = 0
@@ -403,6 +440,67 @@ public final class LogTest {
             """);
     }
 
+    private static void lostBacks() {
+        // The SUM is right though the VALUES are not: so what stands in the ROW is not what the CHANGE wrote.
+        run("if u is a CHANGE, a BACK is put, with OLD and NEW exchanged (those of the CHANGE)", """
+            begin = 0
+            write 0 0 0 999 = 0    # record 2
+            flush 0 = 1
+            spoil 0 0 = 1
+            332 times spoil 0 2 = 1
+            spoil 0 2 = 0
+            read 0 1 0 = 0
+            read 0 2 0 = 0
+            read 0 3 0 = 0
+            read 0 0 0 = 0
+            write 0 0 2 7 = 333    # record 3: the VALUE before
+            ofRecord 3 4 = 333
+            force 9 = 3
+            roll 0 = 2
+            allOfRecord 4 = 2 0 0 2 7 333 3 2 -1 -1
+            allOfRecord 5 = 2 0 0 0 999 0 4 1 -1 -1
+            crash = 3
+            mend 9 false = 3
+            allOfRecord 4 = 2 0 0 2 7 333 3 2 -1 -1
+            allOfRecord 5 = 2 0 0 0 999 0 4 1 -1 -1
+            rows 0 0 = 0 0 333 0
+            """);
+        run("A BACK that was lost (all of them)", """
+            begin = 0
+            point 0 = 0
+            write 0 0 0 1 = 0      # record 2
+            write 0 0 1 2 = 0      # record 3
+            write 0 1 0 3 = 0      # record 4
+            force 9 = 4
+            back 0 0 = 3
+            mark = 8
+            ofWork 0 2 = 0
+            ofWork 0 1 = 7
+            crash = 4
+            ofWork 0 2 = 3
+            ofWork 0 1 = 4
+            wouldMends = 4 3 3 1 2
+            mend 9 false = 6
+            ofWork 0 2 = 0
+            ofRecord 5 7 = 3
+            ofRecord 8 0 = 4
+            """);
+        run("A BACK that was lost (its CHANGE was lost, too)", """
+            begin = 0
+            point 0 = 0
+            write 0 0 0 1 = 0
+            write 0 0 1 2 = 0
+            force 2 = 2
+            back 0 0 = 2
+            crash = 3
+            ofWork 0 2 = 1
+            ofWork 0 1 = 2
+            mend 9 false = 2
+            allOfRecord 3 = 2 0 0 0 1 0 2 1 -1 -1
+            ofRecord 4 0 = 4
+            """);
+    }
+
     private static final String SEVERAL = """
         group 2 = 1
         begin = 0
@@ -574,6 +672,7 @@ public final class LogTest {
         records();
         marks();
         undoing();
+        lostBacks();
         refusals();
         questions();
         RUNS.finish("the log");

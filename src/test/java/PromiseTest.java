@@ -477,6 +477,27 @@ public final class PromiseTest {
             group 5 = ARGUMENT
             group 1 = STATE
             """);
+        run("promise 11: group (more are ENDING than that; fewer; none)", """
+            group 4 = 1
+            group 1 = 4            # none is ENDING
+            group 4 = 1
+            begin = 0
+            begin = 1
+            begin = 2
+            end 0 = 0
+            end 1 = 0
+            group 3 = 4            # one too few
+            house 1 = 0
+            house 6 = 2
+            group 4 = 3
+            end 2 = 0
+            mark = 7
+            group 1 = 4
+            house 1 = 7            # the whole LOG
+            house 6 = 0
+            ofWork 0 0 = 2
+            ofWork 2 0 = 2
+            """);
         run("promise 12: breakRing", """
             breakRing = -1
             begin = 0
@@ -1565,6 +1586,80 @@ public final class PromiseTest {
             afterMends 2 0 = 5 0 0 0
             ! afterMend 3 0 0 = INDEX
             house 3 = 2
+            """);
+        run("promise 37: as if no MARK were there (with 4 OPEN WORKS)", """
+            mark = 1
+            begin = 0
+            begin = 1
+            begin = 2
+            begin = 3
+            write 3 5 0 9 = 0
+            flush 5 = 1
+            mark = 7
+            force 9 = 7
+            afterMends 0 5 = 0 0 0 0
+            afterMends 1 5 = 0 0 0 0
+            afterMends 2 5 = 0 0 0 0
+            wouldMends = 0 0 1 4 0
+            isSound = true
+            """);
+        run("promise 37: the VALUE .. if the house crashed now (a TORN PAGE that is in a FRAME)", """
+            begin = 0
+            write 0 0 0 5 = 0
+            end 0 = 1
+            begin = 1
+            write 1 0 0 6 = 5      # not SAFE
+            spoil 0 1 = 1
+            afterMends 0 0 = 5 0 0 0
+            wouldMends = 3 0 0 0 2
+            isSound = true
+            flush 0 = 1
+            afterMends 0 0 = 5 0 0 0
+            spoil 0 1 = 1
+            wouldMends = 5 0 1 1 2
+            crash = 0
+            mend 1 false = 1
+            rows 0 0 = 5 0 0 0
+            """);
+        // The SUM is right again, and what is DONE again leaves one ROW alone wrong.
+        run("promise 38: each VALUE (ROW 0 of PAGE 0, less than is due)", """
+            begin = 0
+            write 0 0 0 999 = 0
+            end 0 = 1
+            flush 0 = 1
+            spoil 0 0 = 1
+            332 times spoil 0 2 = 1
+            spoil 0 2 = 0
+            isSound = false
+            begin = 1
+            write 1 0 2 5 = 0
+            end 1 = 1
+            afterMends 0 0 = 0 0 5 0
+            isSound = false
+            begin = 2
+            write 2 0 0 7 = 999
+            isSound = false
+            end 2 = 1
+            isSound = true
+            """);
+        run("promise 38: each VALUE (ROW 3 of PAGE 5, more than is due)", """
+            begin = 0
+            write 0 5 0 999 = 0
+            end 0 = 1
+            flush 5 = 1
+            spoil 5 0 = 1
+            249 times spoil 5 3 = 1
+            spoil 5 2 = 0
+            begin = 1
+            write 1 5 0 7 = 999
+            write 1 5 2 8 = 0
+            end 1 = 1
+            afterMends 0 5 = 7 0 8 249
+            isSound = false
+            begin = 2
+            write 2 5 3 9 = 0
+            end 2 = 1
+            isSound = true
             """);
         run("promise 38: NEW of the last CHANGE or BACK of it by a WORK with a SAFE END (0 without one)", """
             group 2 = 1
