@@ -404,31 +404,15 @@ public final class Pagehouse {
     }
 
     public String ring() {
-        int bits = ringBits();
         StringBuilder text = new StringBuilder();
-        for (int i = 0; i < open.size(); i++) {
-            if (hasBit(bits, i)) {
-                appendGap(text);
-                text.append(open.get(i).number);
-            }
-        }
-        return textOrDash(text);
+        appendRing(text);
+        return text.toString();
     }
 
     public String frames() {
         StringBuilder text = new StringBuilder();
-        for (int i = 0; i < framed.size(); i++) {
-            Page page = framed.get(i);
-            appendGap(text);
-            text.append(page.index);
-            if (page.isDirty()) {
-                text.append('*');
-            }
-            if (page.pins > 0) {
-                text.append('+');
-            }
-        }
-        return textOrDash(text);
+        appendFrames(text);
+        return text.toString();
     }
 
     public int house(int what) throws IllegalArgumentException {
@@ -516,8 +500,12 @@ public final class Pagehouse {
                 d = d * 31 + ofRecord(r, what);
             }
         }
-        d = d * 31 + ring().length();
-        d = d * 31 + frames().length();
+        StringBuilder text = new StringBuilder();
+        appendRing(text);
+        d = d * 31 + text.length();
+        text.setLength(0);
+        appendFrames(text);
+        d = d * 31 + text.length();
         rehearsal.play(log, pages, log.lastSafeMark());
         for (int what = 0; what <= 4; what++) {
             d = d * 31 + rehearsal.tell(what);
@@ -858,14 +846,44 @@ public final class Pagehouse {
         return (bits >> at & 1) == 1;
     }
 
+    // ---- texts
+
+    private void appendRing(StringBuilder text) {
+        int bits = ringBits();
+        for (int i = 0; i < open.size(); i++) {
+            if (hasBit(bits, i)) {
+                appendGap(text);
+                text.append(open.get(i).number);
+            }
+        }
+        appendDash(text);
+    }
+
+    private void appendFrames(StringBuilder text) {
+        for (int i = 0; i < framed.size(); i++) {
+            Page page = framed.get(i);
+            appendGap(text);
+            text.append(page.index);
+            if (page.isDirty()) {
+                text.append('*');
+            }
+            if (page.pins > 0) {
+                text.append('+');
+            }
+        }
+        appendDash(text);
+    }
+
     private static void appendGap(StringBuilder text) {
         if (text.length() > 0) {
             text.append(' ');
         }
     }
 
-    private static String textOrDash(StringBuilder text) {
-        return text.length() == 0 ? "-" : text.toString();
+    private static void appendDash(StringBuilder text) {
+        if (text.length() == 0) {
+            text.append('-');
+        }
     }
 
     // ---- crashes and mending

@@ -71,6 +71,7 @@ public final class LanguageTest {
         private final Trees trees;
         private final CompilationUnitTree unit;
         private final Map<ExecutableElement, Set<ExecutableElement>> calls = new HashMap<>();
+        private final Map<ExecutableElement, Integer> builders = new HashMap<>();
         private final Set<String> publicMethods = new TreeSet<>();
         private ExecutableElement inside = null;
         private int classes = 0;
@@ -167,7 +168,11 @@ public final class LanguageTest {
 
         @Override
         public Void visitNewClass(NewClassTree tree, Void nothing) {
-            called((ExecutableElement) here(), tree);
+            ExecutableElement made = (ExecutableElement) here();
+            called(made, tree);
+            if (inside != null && made.getEnclosingElement().toString().equals("java.lang.StringBuilder")) {
+                builders.merge(inside, 1, Integer::sum);
+            }
             return super.visitNewClass(tree, nothing);
         }
 
@@ -241,6 +246,15 @@ public final class LanguageTest {
             known.put(method, deepest + 1);
             return deepest + 1;
         }
+
+        /** How many StringBuilders a method makes, with all that it calls. */
+        private int buildersOf(ExecutableElement method) {
+            int made = builders.getOrDefault(method, 0);
+            for (ExecutableElement next : calls.getOrDefault(method, Set.of())) {
+                made += buildersOf(next);
+            }
+            return made;
+        }
     }
 
     private static void readFile() throws IOException {
@@ -265,6 +279,10 @@ public final class LanguageTest {
             }
             System.out.println("calls go " + deepest + " deep");
             check(deepest <= 8, "11: calls go too deep");
+            for (ExecutableElement method : deepest <= 8 ? reader.calls.keySet() : Set.<ExecutableElement>of()) {
+                int made = reader.buildersOf(method);
+                check(made <= 1, "12: " + method.getSimpleName() + " makes " + made + " StringBuilders a call");
+            }
         }
     }
 

@@ -884,6 +884,22 @@ public final class MendingTest {
             mend 999 false = 0
             house 10 = 4
             """);
+        run("if a STEP would be one more than are let: also behind the greatest number that can be let", """
+            begin = 0
+            write 0 0 0 5 = 0
+            499 times write 0 0 0 5 = 5
+            force 99 = 99
+            force 99 = 198
+            force 99 = 297
+            force 99 = 396
+            force 99 = 495
+            force 99 = 501
+            crash = 0
+            mend 999 true = 999    # 500 CHANGES again, and 499 BACKS
+            house 0 = 1000
+            mend 999 false = 999   # all these again: and no STEP for the last BACK
+            house 8 = 1
+            """);
         run("a WORK that is mended is GONE, and no second MENDING puts more", """
             begin = 0
             write 0 0 0 1 = 0

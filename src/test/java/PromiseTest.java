@@ -1837,7 +1837,20 @@ public final class PromiseTest {
         return product;
     }
 
+    private static void readme() {
+        run("the example in README.md", """
+            begin = 0
+            write 0 0 2 77 = 0
+            end 0 = 1
+            crash = 0
+            value 0 2 0 = 0
+            mend 999 false = 1
+            value 0 2 0 = 77
+            """);
+    }
+
     public static void main(String[] args) {
+        readme();
         works();
         undoing();
         framesAndLog();
